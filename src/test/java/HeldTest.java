@@ -151,6 +151,12 @@ public final class HeldTest {
         z.draw(9, 50);
         C.due("beyond all numbers", z.worlds(63, 1, 20, 10, 0), 0);
         C.due("beyond all numbers", z.worlds(63, 1, 20, 10, 1), 0);
+        Check.tell(z, "law enter 9 leave 10;sort share 1 gift 5 wish 0;wage school times 99;");
+        C.due("the greatest number", z.worlds(63, 1, 20, 10, 0), 20);
+        C.due("the greatest number", z.worlds(63, 1, 20, 10, 1), 20);
+        Check.tell(z, "law enter 9 leave 10;sort share 1 gift 5 wish 0;wage 99 times 99 minus school times 99;");
+        C.due("the least number", z.worlds(63, 1, 20, 10, 0), 20);
+        C.due("the least number", z.worlds(63, 1, 20, 10, 1), 20);
     }
 
     private static int drawnMonth(int seed) {
@@ -195,5 +201,9 @@ public final class HeldTest {
             }
             C.holds("a seed at its end", x.worlds(push, 2000000000, 20, 2, 2) >= 0);
         }
+        MonthPush y = Check.with("law enter 6 leave 15;sort share 1 gift 5 wish 0;wage school times 3;");
+        y.draw(51, 4);
+        C.due("strong by 1,000 and no more", y.strong(3), 1000);
+        C.due("that is enough", y.worlds(3, 51, 1, 1, 2), 1);
     }
 }

@@ -199,6 +199,10 @@ public final class SheetsTest {
         C.due("one", x.judge(0), 1);
         x.write(0, 1, 200);
         C.due("beyond the SHEETS", x.judge(0), 3);
+        x.row(1, 1, 2);
+        x.write(1, 0, 100);
+        x.write(1, 1, 200);
+        C.due("beyond the row", x.judge(1), 2);
         x.row(1, 0, 2);
         x.write(1, 0, 100);
         x.write(1, 1, 200);
@@ -212,6 +216,10 @@ public final class SheetsTest {
     }
 
     private static void outOfASlot() {
+        MonthPush first = Check.with("law enter 6 leave 15;");
+        first.row(0, 0, 8);
+        first.write(0, 1, 5);
+        C.due("the very first, and then none", first.sheets(0), 1);
         MonthPush x = Check.with("law enter 6 leave 15;law enter 6 leave 15;");
         x.sheet(0, 2, 9, 9);
         C.due("SLOT 4", x.sheets(4), -2);

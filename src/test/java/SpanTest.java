@@ -90,6 +90,11 @@ public final class SpanTest {
         y.sheet(0, 2, 5, 0);
         y.sheet(0, 1, 6, 99);
         C.due("usual at its end", y.usual(2, 1, 1), 99);
+        MonthPush v = Check.with("law enter 6 leave 15;");
+        v.sheet(0, 2, 5, 99);
+        v.sheet(0, 2, 5, 99);
+        v.sheet(0, 1, 6, 0);
+        C.due("usual at its other end", v.usual(2, 1, 1), -99);
         MonthPush z = Check.with("law enter 6 leave 15;");
         z.sheet(0, 2, 5, 200);
         z.sheet(0, 2, 5, 200);
@@ -123,6 +128,10 @@ public final class SpanTest {
         // by the second HAT: w 1120, v 300, s 360, t 100: (1120 - 900) by (360 - 300) = 3.666
         C.due("two HATS tell", x.hats(0, 2, 1, 0), 2);
         C.due("two near PLAIN", x.hats(0, 2, 1, 1), 2);
+        nearPlain(-1000, 1, 2, 14, 3, 20, 1, 29, 0, 35);
+        nearPlain(1000, 1, 10, 36, 10, 21, 6, 29, 10, 30);
+        nearPlain(1001, 0, 1, 23, 4, 14, 0, 23, 8, 33);
+        nearPlain(-1001, 0, 2, 1, 10, 13, 5, 17, 4, 10);
         MonthPush y = Check.with("law enter 6 leave 15;");
         C.due("HATS of no SHEETS", y.hats(0, 40, 1, 0), 0);
         C.due("USUAL SPANS of no SHEETS", y.hats(0, 40, 1, 2), 0);
@@ -132,6 +141,16 @@ public final class SpanTest {
         y.sheet(0, 1, 5, 3);
         C.due("HATS without a gap", y.hats(5, 40, 1, 0), 0);
         C.due("PLAIN without a gap", y.hats(5, 40, 1, 1), NOTHING);
+    }
+
+    /** The first HAT of the seed 0 moves the fourth SHEET alone: as a PUSH of its MONTH does. */
+    private static void nearPlain(long apart, int due, int... schoolsAndWages) {
+        MonthPush x = Check.with("law enter 6 leave 15;");
+        for (int i = 0; i < 4; i++) {
+            x.sheet(0, i < 3 ? 1 : 2, schoolsAndWages[2 * i], schoolsAndWages[2 * i + 1]);
+        }
+        C.due("apart", x.by(2) - x.plain(), apart);
+        C.due("within 1,000 of PLAIN", x.hats(0, 1, 1, 1), due);
     }
 
     private static void hatsOfNone() {

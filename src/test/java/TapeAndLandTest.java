@@ -81,6 +81,8 @@ public final class TapeAndLandTest {
         C.due("numbers with zeros ahead", Check.tell(x, "noise 000000000000000000000005;"), 1);
         C.due("noise", x.count(5), 5);
         C.due("in place of another", x.count(0), 0);
+        C.due("the least numbers", Check.tell(x, "law enter 4 leave 10;sort share 1 gift 0 wish 0 spread 0;leak 1 by 0;wage 0;noise 0;"), 5);
+        C.due("the greatest numbers", Check.tell(x, "law enter 9 leave 20;sort share 99 gift 99 wish 240 spread 60;leak 12 by 99;wage 999;noise 999;"), 5);
         C.due("six laws, eight sorts", Check.tell(x, LAW.repeat(6) + SORT.repeat(8)), 14);
         StringBuilder sum = new StringBuilder("wage1");
         for (int i = 1; i < 119; i++) {
@@ -105,6 +107,8 @@ public final class TapeAndLandTest {
         faulty("Law enter 6 leave 15;", 1, 0);
         faulty("laws enter 6 leave 15;", 1, 0);
         faulty("la enter 6 leave 15;", 1, 0);
+        faulty("paw enter 6 leave 15;", 1, 0);
+        faulty("lawz enter 6 leave 15;", 1, 0);
         faulty(";", 1, 0);
         faulty("7", 1, 0);
         faulty("law 6;", 1, 4);
@@ -263,6 +267,8 @@ public final class TapeAndLandTest {
         wage("100 times 100 times 100 times 100 times 10 over 500 over 500", 0, 0, 1, 4000);
         wage("100 times 100 times 100 times 100 times 10 plus 1 minus 100 times 100 times 100 times 100 times 10", 0, 0, 1, 0);
         wage("100 times 100 times 100 times 100 times 10 plus 0 minus 100 times 100 times 100 times 100 times 10 plus 5", 0, 0, 1, 5);
+        wage("100 times 100 times 100 times 100 times 10 plus 1", 0, 0, 1, 0);
+        wage("100 times 100 times 100 times 100 times 10", 0, 0, 1, 9999);
         wage("0 minus 100 times 100 times 100 times 100 times 10 minus 1 plus 999 times 999 times 999 plus 999 times 999 times 9", 0, 0, 1, 0);
         wage("0 minus 100 times 100 times 100 times 100 times 10 plus 100 times 100 times 100 times 100 times 10 plus 7", 0, 0, 1, 7);
         wage("999 times 999 times 999 times 2 over 999 over 999", 0, 0, 1, 0);

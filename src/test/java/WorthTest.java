@@ -173,6 +173,8 @@ public final class WorthTest {
         y.sheet(0, 11, 11, 1);
         y.sheet(0, 10, 9, 1);
         C.due("the first of several", y.strongest(), 10);
+        y.sheet(0, 12, 99, 1);
+        C.due("the last MONTH", y.strongest(), 12);
         MonthPush z = Check.with("law enter 6 leave 15;");
         z.sheet(0, 5, 10, 1);
         z.sheet(0, 5, 20, 1);
