@@ -100,10 +100,10 @@ public final class MonthPush {
 
     public int land() {
         tape.readInto(draft);
-        tape.length = 0;
         if (tape.fault != 0) {
             return FAULTY;
         }
+        tape.length = 0;
         Land before = now;
         now = draft;
         draft = before;

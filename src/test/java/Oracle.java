@@ -125,10 +125,9 @@ final class Oracle {
     }
 
     int land() {
-        String text = tape;
-        tape = "";
         try {
-            land = parse(new Tokens(text));
+            land = parse(new Tokens(tape));
+            tape = "";
             faultKind = 0;
             faultPlace = -1;
             return land.lines;

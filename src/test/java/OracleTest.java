@@ -47,6 +47,10 @@ public final class OracleTest {
     private int tellText(String text) {
         String cut = text.length() > 600 ? text.substring(0, 600) : text;
         int calls = 2;
+        if (r.nextInt(4) != 0) {
+            due("end 0", x.end(0), y.end(0));
+            calls++;
+        }
         for (int i = 0; i < cut.length(); i += 20) {
             int[] v = new int[5];
             for (int j = 0; j < 20; j++) {

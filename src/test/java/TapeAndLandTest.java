@@ -197,7 +197,11 @@ public final class TapeAndLandTest {
         C.due("forced stays", x.forced(0, 1), 100);
         C.due("fault(0)", x.fault(0), 1);
         C.due("fault(1)", x.fault(1), 61);
-        C.due("a text behind a fault", Check.tell(x, "law enter 7 leave 16;"), 1);
+        C.due("the TAPE stays", x.count(6), 62);
+        C.due("the same fault again", x.land(), -4);
+        C.due("fault(1)", x.fault(1), 61);
+        C.due("cut ahead of the fault", x.end(21), 21);
+        C.due("a text that was faulty further on", x.land(), 1);
         C.due("fault(0)", x.fault(0), 0);
         C.due("fault(1)", x.fault(1), -1);
         C.due("forced is new", x.forced(0, 1), 12 * 16 - 84 - 8);
