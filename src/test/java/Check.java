@@ -18,6 +18,14 @@ final class Check {
         }
     }
 
+    void same(String what, String got, String want) {
+        asked++;
+        if (!got.equals(want)) {
+            wrong++;
+            System.out.println(name + ": " + what + ": seen is\n" + got + "\ndue is\n" + want);
+        }
+    }
+
     void holds(String what, boolean so) {
         due(what, so ? 1 : 0, 1);
     }
@@ -31,7 +39,7 @@ final class Check {
         x.end(before + text.length());
     }
 
-    private static int four(String text, int from) {
+    static int four(String text, int from) {
         int v = 0;
         for (int i = from; i < from + 4; i++) {
             v = v << 8 | (i < text.length() ? text.charAt(i) & 255 : 0);
