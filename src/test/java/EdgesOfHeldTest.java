@@ -28,6 +28,7 @@ public final class EdgesOfHeldTest {
         worldsOfFewSheets();
         worldsSeedBySeed();
         worldsTruthIsCut();
+        worldsOfEitherSpan();
         worldsBeyondAllNumbers();
         worldsThatAreStrong();
         C.close();
@@ -517,6 +518,31 @@ public final class EdgesOfHeldTest {
             kept(63, 1, -1) = 1
             ! worlds(63, 13, 1, 1, 0) = 0
             ! worlds(63, 13, 1, 1, 1) = 0
+            """);
+    }
+
+    private static void worldsOfEitherSpan() {
+        String cubes = "\"law enter 6 leave 15;sort share 1 gift 5 wish 0;wage school times school times school over 500 over 4;\" = 3\n";
+        edge("35. 0: in whose TRUE SPAN, 1: in whose USUAL SPAN: in this one alone", cubes + """
+            draw(29, 4) = 4
+            truth(true) = 17750
+            kept(7, 1, 17) = 0
+            ! worlds(7, 29, 1, 1, 0) = 0
+            ! worlds(7, 29, 1, 1, 1) = 1
+            """);
+        edge("35. 0: in whose TRUE SPAN, 1: in whose USUAL SPAN: in that one alone", cubes + """
+            draw(108, 4) = 4
+            truth(true) = 17000
+            kept(63, 1, 17) = 1
+            ! worlds(63, 108, 1, 1, 0) = 1
+            ! worlds(63, 108, 1, 1, 1) = 0
+            """);
+        edge("35. (in thousandths cut to whole): 16.983 is 16", cubes + """
+            draw(12, 60) = 60
+            truth(true) = 16983
+            kept(1, 1, 16) = 1
+            kept(1, 1, 17) = 0
+            ! worlds(1, 12, 1, 1, 0) = 1
             """);
     }
 

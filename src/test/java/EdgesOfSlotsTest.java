@@ -1,3 +1,5 @@
+import java.util.Arrays;
+
 /** Edges, sentence by sentence: SLOTS of Terms I, and promises 37 to 44. */
 public final class EdgesOfSlotsTest {
     private static final Check C = new Check("EdgesOfSlotsTest");
@@ -110,16 +112,12 @@ public final class EdgesOfSlotsTest {
         edge("38. four numbers each (STATE, MONTH, SCHOOL, WAGE)", "\"law enter 6 leave 15;law enter 6 leave 15;\" = 2\nsheet(0, 9, 9, 9) = 0\n"
             + row(2, 1, 1, 12, 300, 9999, 0, 1, 0, 0) + "sheets(2) = 2\ncount(2) = 3\n0: 0 9 9 9 0 9\n1: 1 12 300 9999 0 300\n2: 0 1 0 0 0 0\n");
         for (int left = 0; left < 4; left++) {
-            long[] numbers = new long[8 + left];
-            numbers[1] = 3;
-            numbers[5] = 4;
-            for (int i = 8; i < numbers.length; i++) {
-                numbers[i] = 1;
-            }
+            // with a WAGE of 0 behind them, three that are left over would be a SHEET
+            long[] numbers = Arrays.copyOf(new long[] {0, 3, 0, 0, 0, 4, 0, 0, 0, 5, 6}, 8 + left);
             edge("38. one or more left over not looked at: " + left, LAW + row(0, 1, numbers) + "sheets(0) = 2\ncount(2) = 2\n");
         }
         for (int n = 0; n < 4; n++) {
-            edge("38. fewer than four are none: " + n, LAW + row(0, 1, new long[n]) + "! sheets(0) = 0\n");
+            edge("38. fewer than four are none: " + n, LAW + row(0, 1, Arrays.copyOf(new long[] {0, 5, 6}, n)) + "! sheets(0) = 0\n");
         }
         String[] refused = {"4, -1", "4, 1", "5, 0", "5, 13", "6, -1", "6, 301", "7, -1", "7, 10000"};
         for (String one : refused) {
@@ -294,6 +292,39 @@ public final class EdgesOfSlotsTest {
             back(0) = 0
             count(2) = 3
             """);
+        edge("41. all of the LAND is as it was", """
+            "law enter 6 leave 15;law enter 7 leave 16;sort share 3 gift 5 wish 90 spread 9;sort share 4 gift 9 wish 140;"
+            "leak 1 by 20;noise 50;wage school times 3 plus gift;" = 7
+            keep(0) = 0
+            "law enter 9 leave 20;law enter 9 leave 20;sort share 9 gift 1 wish 2 spread 3;sort share 8 gift 2 wish 3 spread 4;"
+            "leak 1 by 1;leak 12 by 2;noise 3;wage 7 minus 5 minus 1;" = 8
+            keep(1) = 0
+            back(0) = 0
+            count(3) = 7
+            count(4) = 3
+            count(5) = 50
+            old(1, 9) = 84
+            forced(0, 1) = 100
+            forced(1, 12) = 111
+            wage(10, 4, 1, 0) = 34
+            draw(0, 2) = 2
+            0: 0 1 140 463 29 140
+            1: 1 2 101 285 5 92
+            # of MONTH 12 there is no leak
+            draw(15, 1) = 1
+            0: 0 12 111 336 5 90
+            keep(2) = 0
+            back(1) = 0
+            count(3) = 8
+            wage(10, 4, 1, 0) = 1
+            count(2) = 0
+            back(2) = 0
+            0: 0 12 111 336 5 90
+            draw(0, 1) = 1
+            0: 0 1 140 463 29 140
+            back(2) = 0
+            0: 0 12 111 336 5 90
+            """);
         edge("40. of as many as there may be", """
             "law enter 6 leave 15;sort share 1 gift 1 wish 1;" = 2
             draw(1, 200) = 200
@@ -319,6 +350,8 @@ public final class EdgesOfSlotsTest {
             "law enter 6 leave 15;" = 1
             keep(0) = 0
             "law x" = -4
+            end(0) = 0
+            "noise"
             row(0, 1, 3) = 0
             write(0, 1, 7) = 0
             keep(1) = 0

@@ -148,6 +148,9 @@ public final class EdgesOfSpansTest {
         // -1.272: with the Q of -2 it would begin at -4
         edge("IV. BY THE PUSH, its thousandths cut to whole ones", sheets(2, 0, 10, 3, 14, 4, 14, 2, 9, 4, 6) + "by(1) = -1272\n"
             + spanIs("usual(1, 1, WHAT)", 5, -3, 1, 1));
+        // 23.984: with the Q of 24 it would be -16 .. 64
+        edge("IV. BY THE PUSH, its thousandths cut to whole ones", sheets(2, 2, 2, 2, 437, 24, 136, 13, 729, 1, 561) + "by(1) = 23984\n"
+            + spanIs("usual(1, 1, WHAT)", 79, -15, 63, 1));
     }
 
     private static void usualBeyond() {

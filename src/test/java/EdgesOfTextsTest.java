@@ -8,6 +8,7 @@ public final class EdgesOfTextsTest {
         onceOnly();
         tokens();
         longestTokens();
+        wordsInFull();
         faultsByPlace();
         faultsOfOnePlace();
         theEndsPlace();
@@ -171,6 +172,8 @@ public final class EdgesOfTextsTest {
     private static void longestTokens() {
         taken("I. TOKENS, the longest", "law enter6leave15;sort share1gift2wish3spread4;leak1by2;wage1plus2times school;noise0;", 5);
         refused("I. TOKENS, the longest", "lawenter 6 leave 15;", 1, 0);
+        refused("I. TOKENS, the longest", "lawz enter 6 leave 15;", 1, 0);
+        refused("I. TOKENS, the longest", "lawa enter 6 leave 15;", 1, 0);
         refused("I. TOKENS, the longest", "law enter 6 leavex 15;", 1, 12);
         refused("I. TOKENS, the longest", "law ente r 6 leave 15;", 1, 4);
         refused("I. TOKENS, the longest", "noise 1 2;", 1, 8);
@@ -179,6 +182,26 @@ public final class EdgesOfTextsTest {
         refused("I. TOKENS, the longest", "wage 1 plusgift;", 1, 7);
         refused("I. TOKENS, the longest", "noise 1;;", 1, 8);
         refused("I. TOKENS, the longest", ";", 1, 0);
+    }
+
+    /** Each word of a LINE in turn with another letter at its beginning, in it, at its end, or one more or less. */
+    private static void wordsInFull() {
+        String[] lines = {"law enter 6 leave 15;", "sort share 1 gift 2 wish 3 spread 4;", "leak 1 by 2;", "noise 1;",
+            "wage school plus gift minus month times old over forced;"};
+        for (String line : lines) {
+            int place = 0;
+            for (String word : line.replace(";", "").split(" ")) {
+                if (Character.isLetter(word.charAt(0))) {
+                    int last = word.length() - 1;
+                    String[] others = {"x" + word.substring(1), word.substring(0, last) + "x", word + "x", word.substring(0, last), word.substring(1),
+                        word.substring(0, 1) + "x" + word.substring(Math.min(2, last + 1))};
+                    for (String other : others) {
+                        refused("I. 1 a TOKEN that can't stand there: " + other, line.substring(0, place) + other + line.substring(place + word.length()), 1, place);
+                    }
+                }
+                place += word.length() + 1;
+            }
+        }
     }
 
     // ---------------------------------------------------------------- Terms I: FAULTS
@@ -404,6 +427,31 @@ public final class EdgesOfTextsTest {
             count(6) = 0
             land() = 0
             """);
+        edge("3. what is cut off is read no more", """
+            "noise 123;"
+            end(8) = 8
+            land() = -4
+            fault(0) = 1
+            fault(1) = 8
+            end(0) = 0
+            "lawx"
+            end(3) = 3
+            land() = -4
+            fault(1) = 3
+            end(0) = 0
+            "noise 1;  x"
+            end(9) = 9
+            land() = 1
+            "noise 7"
+            end(6) = 6
+            land() = -4
+            fault(1) = 6
+            end(0) = 0
+            "noise 7;x"
+            end(8) = 8
+            land() = 1
+            count(5) = 7
+            """);
     }
 
     // ---------------------------------------------------------------- promises 4 and 5
@@ -434,6 +482,22 @@ public final class EdgesOfTextsTest {
             count(1) = 0
             count(3) = 0
             forced(0, 1) = -2
+            """);
+        edge("4. (in place of another): shares, too", """
+            "law enter 6 leave 15;sort share 3 gift 5 wish 90;sort share 4 gift 9 wish 140;leak 5 by 9;" = 4
+            draw(9, 1) = 1
+            told(0, 4) = 9
+            "law enter 6 leave 15;sort share 3 gift 5 wish 90;sort share 4 gift 9 wish 140;" = 3
+            "law enter 6 leave 15;sort share 3 gift 5 wish 90;sort share 4 gift 9 wish 140;" = 3
+            # third draws of 7: 6 (and 13 of 14), 3, 2, 0
+            draw(24, 1) = 1
+            told(0, 4) = 9
+            draw(9, 1) = 1
+            told(0, 4) = 9
+            draw(13, 1) = 1
+            told(0, 4) = 5
+            draw(20, 1) = 1
+            told(0, 4) = 5
             """);
         edge("4. the SHEETS stay as they are", """
             "law enter 6 leave 15;sort share 1 gift 2 wish 3;wage 7;" = 3
