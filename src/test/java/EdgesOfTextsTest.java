@@ -15,6 +15,7 @@ public final class EdgesOfTextsTest {
         linesInFull();
         sums();
         aNewObject();
+        theLastCalls();
         feeds();
         ends();
         lands();
@@ -337,6 +338,23 @@ public final class EdgesOfTextsTest {
             count(7) = 0
             back(0) = -6
             fault(0) = 0
+            """);
+    }
+
+    private static void theLastCalls() {
+        edge("An object is used for at most 512 calls: the 512th is answered as the first", """
+            # two feeds, end, land: four
+            "law enter 6 leave 15;" = 1
+            200 x sheet(0, 1, 5, 6)
+            100 x draw(0, 1) = -6
+            100 x land() = 0
+            sheet(0, 1, 5, 6) = -2
+            "law enter 6 leave 15;" = 1
+            3 x keep(2) = 0
+            97 x count(2) = 200
+            only(0) = 200
+            back(2) = 0
+            count(2) = 200
             """);
     }
 
