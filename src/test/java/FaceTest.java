@@ -9,9 +9,8 @@ import java.util.HashSet;
 import java.util.List;
 import java.util.Set;
 import java.util.TreeSet;
-import java.util.regex.Pattern;
 
-/** The public face, and what LANGUAGE.md asks of the file as far as a text shows it. Run from the project's folder. */
+/** The public face (LANGUAGE.md, rule 1), and the signs of the text; RulesTest has the other rules. Run from the project's folder. */
 public final class FaceTest {
     private static final Check C = new Check("FaceTest");
     private static final String[] FACE = {
@@ -23,14 +22,10 @@ public final class FaceTest {
         "long leans(int,int)", "int least(int)", "int beside(int,int)", "int needs(int,int)", "int worlds(int,int,int,int,int)",
         "int only(int)", "int judge(int)", "int sheets(int)", "int count(int)", "int keep(int)", "int back(int)", "int row(int,int,int)",
         "int write(int,int,long)", "int paste(int,int,int,int,int)"};
-    private static final String[] RULED_OUT = {
-        "\\bthrow\\b", "\\btry\\b", "\\bcatch\\b", "\\bsynchronized\\b", "\\bassert\\b", "->", "::", "Exact\\b", "\\bhashCode\\b",
-        "\\bNaN\\b", "\\bSystem\\.(?!arraycopy)", "\\bThread\\b", "\\bpackage\\b", "\\bObject\\b", "while \\(true\\)", "for \\(;;\\)"};
 
     public static void main(String[] args) throws Exception {
         members();
-        methodsOfOwnClasses();
-        text(Files.readString(Path.of("src/main/java/MonthPush.java")));
+        signs(Files.readString(Path.of("src/main/java/MonthPush.java")));
         C.close();
     }
 
@@ -70,46 +65,10 @@ public final class FaceTest {
         return b.append(')').toString();
     }
 
-    private static void methodsOfOwnClasses() {
-        Class<?>[] own = MonthPush.class.getDeclaredClasses();
-        C.holds("at most some twelve classes", own.length <= 11);
-        for (Class<?> c : own) {
-            C.holds(c + " is static, and not open", Modifier.isStatic(c.getModifiers()) && !Modifier.isPublic(c.getModifiers()));
-            int fields = 0;
-            for (Field f : c.getDeclaredFields()) {
-                fields += Modifier.isStatic(f.getModifiers()) ? 0 : 1;
-            }
-            C.holds(c + " has at most twenty fields", fields <= 20);
-            for (Method m : c.getDeclaredMethods()) {
-                C.holds(m + " takes at most seven", m.getParameterCount() <= 7);
-            }
-        }
-    }
-
-    private static void text(String source) {
-        String bare = source.replaceAll("(?s)/\\*.*?\\*/", "").replaceAll("//[^\n]*", "");
-        for (String word : RULED_OUT) {
-            C.holds("without " + word, !Pattern.compile(word).matcher(bare).find());
-        }
+    /* Constants have signs 1 to 127 alone (rule 4): here the whole text has. */
+    private static void signs(String source) {
         for (char c : source.toCharArray()) {
-            C.holds("plain signs alone", c == 10 || c >= 32 && c < 127);
-        }
-        int longest = 0;
-        int begun = 0;
-        String[] lines = bare.split("\n");
-        for (int i = 0; i < lines.length; i++) {
-            if (lines[i].matches("    (    )?(?! ).*\\) \\{")) {
-                begun = i;
-            }
-            if (lines[i].matches("    (    )?\\}")) {
-                longest = Math.max(longest, i - begun);
-            }
-        }
-        C.holds("methods are short: " + longest, longest <= 60);
-        for (String line : lines) {
-            if (line.startsWith("import ")) {
-                C.holds(line, line.equals("import java.util.Arrays;"));
-            }
+            C.holds("plain signs alone: " + (int) c, c == 10 || c >= 32 && c < 127);
         }
     }
 }
